@@ -379,7 +379,7 @@ public final class ClusterField {
             return living;
         }
 
-        // The settings that divide are never below 1; they are looked at because rule 7 asks it of every divisor.
+        // The settings that divide are never below 1; LANGUAGE.md's rule 7 wants them looked at all the same.
         int phase() {
             int cycle = settings[CYCLE];
             return cycle > 0 ? round % cycle : 0;
@@ -484,7 +484,7 @@ public final class ClusterField {
             for (int i = 0; i < net.count; i++) {
                 Sensor sensor = net.sensors[i];
                 if (sensor.alive && sensor.head != i) {
-                    sensor.head = nearestHead(sensor);
+                    sensor.head = nearestHead(sensor.x, sensor.y);
                 }
             }
             for (int h = 0; h < net.count; h++) {
@@ -494,13 +494,13 @@ public final class ClusterField {
             }
         }
 
-        // Sensors that joined already have another's number as their head, so they are never taken for heads.
-        int nearestHead(Sensor sensor) {
+        // Only living heads are asked for: nobody joins after a head has died, and no dead head is the relay.
+        int nearestHead(int x, int y) {
             int nearest = NONE;
             int least = 0;
             for (int h = 0; h < net.count; h++) {
-                if (isHead(h)) {
-                    int distance = sensor.distanceTo(net.sensors[h].x, net.sensors[h].y);
+                if (isLivingHead(h)) {
+                    int distance = net.sensors[h].distanceTo(x, y);
                     if (nearest == NONE || distance < least) {
                         nearest = h;
                         least = distance;
@@ -520,8 +520,13 @@ public final class ClusterField {
             }
         }
 
+        // A sensor that joined a head has that one's number, so it is never taken for a head.
         boolean isHead(int number) {
             return net.sensors[number].head == number;
+        }
+
+        boolean isLivingHead(int number) {
+            return isHead(number) && net.sensors[number].alive;
         }
 
         boolean hasJoined(int number, int head) {
@@ -550,7 +555,7 @@ public final class ClusterField {
         void addOwnReadings() {
             for (int h = 0; h < net.count; h++) {
                 Sensor head = net.sensors[h];
-                if (isHead(h) && head.alive && pays(head, net.settings[Network.AGGREGATION])) {
+                if (isLivingHead(h) && pays(head, net.settings[Network.AGGREGATION])) {
                     head.readings++;
                 }
             }
@@ -567,43 +572,27 @@ public final class ClusterField {
         void deliverDirectly() {
             for (int h = 0; h < net.count; h++) {
                 Sensor head = net.sensors[h];
-                if (isHead(h) && head.alive) {
+                if (isLivingHead(h)) {
                     sendToBase(head, head.readings);
                 }
             }
         }
 
         void deliverThroughRelay() {
-            int chosen = nearestToBase();
+            int chosen = nearestHead(net.baseX, net.baseY);
             if (!net.has(chosen)) {
                 return;
             }
             Sensor relay = net.sensors[chosen];
             for (int h = 0; h < net.count; h++) {
                 Sensor head = net.sensors[h];
-                if (h != chosen && isHead(h) && head.alive && sends(head, relay)) {
+                if (h != chosen && isLivingHead(h) && sends(head, relay)) {
                     relay.readings += head.readings;
                 }
             }
             if (relay.alive) {
                 sendToBase(relay, relay.readings);
             }
-        }
-
-        int nearestToBase() {
-            int nearest = NONE;
-            int least = 0;
-            for (int h = 0; h < net.count; h++) {
-                Sensor head = net.sensors[h];
-                if (isHead(h) && head.alive) {
-                    int distance = head.distanceTo(net.baseX, net.baseY);
-                    if (nearest == NONE || distance < least) {
-                        nearest = h;
-                        least = distance;
-                    }
-                }
-            }
-            return nearest;
         }
 
         void reportToBase() {
@@ -621,7 +610,7 @@ public final class ClusterField {
             }
         }
 
-        // True only if the message is with the receiver afterwards; the sender pays in any case.
+        // True only if the message is with the receiver afterwards; the sender pays for a lost one too.
         boolean sends(Sensor sender, Sensor receiver) {
             return pays(sender, net.costBetween(sender, receiver))
                     && receiver.alive

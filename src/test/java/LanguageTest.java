@@ -19,8 +19,8 @@ public final class LanguageTest {
         "forecastDeath/2", "forecastDelivered/1", "undo/0", "undoDepth/0", "save/1", "restore/1"
     };
     private static final String[] RULED_OUT = {
-        "\\bpackage\\b", "\\bimport\\b", "\\bthrow\\b", "\\bthrows\\b", "\\btry\\b", "\\bcatch\\b", "\\bsynchronized\\b",
-        "\\bassert\\b", "->", "::", "\\bnull\\b", "\\b(equals|hashCode|toString)\\b", "Exact\\b", "\\bThread\\b"
+        "\\bpackage\\b", "\\bimport\\b", "\\bthrow\\b", "\\bthrows\\b", "\\btry\\b", "\\bcatch\\b",
+        "\\bsynchronized\\b", "\\bassert\\b", "->", "::", "\\bnull\\b", "\\b(equals|hashCode|toString)\\b", "Exact\\b", "\\bThread\\b"
     };
     private static final int LONGEST_METHOD = 60;
     private static final int MOST_FIELDS = 20;

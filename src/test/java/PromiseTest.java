@@ -149,6 +149,29 @@ public final class PromiseTest {
         A.due("2 added in the same place", later.addSensor(2, 2, 7), 1);
         A.due("2 its battery", later.battery(1), 7);
         A.due("2 its head", later.headOf(1), NONE);
+        usedPlace();
+    }
+
+    // A sensor takes the number of one that was head and died, before a restore: nothing of that one is left.
+    private static void usedPlace() {
+        ClusterField x = new ClusterField();
+        x.save(0);
+        x.setGenerator(ELECTS_FIRST);
+        x.addSensor(50, 50, 107);
+        x.run(2);
+        A.due("2 the first one was head", x.headRounds(0), 1);
+        A.due("2 the first one died", x.isAlive(0), 0);
+        x.restore(0);
+        A.due("2 the second one", x.addSensor(1, 2, 3), 0);
+        A.due("2 its battery", x.battery(0), 3);
+        A.due("2 it lives", x.isAlive(0), 1);
+        A.due("2 it was never head", x.headRounds(0), 0);
+        A.due("2 it is not dead", x.deathRound(0), NONE);
+        A.due("2 it is in no cluster", x.headOf(0), NONE);
+        A.due("2 it has no slot", x.slotOf(0), NONE);
+        x.setSetting(0, 3);
+        x.setSetting(0, 8);
+        A.due("2 it is eligible", x.isEligible(0), 1);
     }
 
     private static void promise3MoveBase() {
@@ -235,15 +258,15 @@ public final class PromiseTest {
         A.due("5 draw 80", y.headOf(6), 6);
         A.due("5 draw 63", y.headOf(7), 7);
 
-        // The first state, 1, draws 838, 758, 113.
+        // The first state, 1, draws 838, 758, 113, 515, 51.
         ClusterField z = new ClusterField();
-        for (int n = 0; n < 3; n++) {
+        for (int n = 0; n < 5; n++) {
             z.addSensor(50, 50, 1000);
         }
         z.run(1);
-        A.due("5 only 2 is elected", z.headOf(2), 2);
-        A.due("5 0 joins it", z.headOf(0), 2);
-        A.due("5 heads of the first state", z.headCount(), 1);
+        A.due("5 2 is elected", z.headOf(2), 2);
+        A.due("5 4 is elected", z.headOf(4), 4);
+        A.due("5 heads of the first state", z.headCount(), 2);
     }
 
     private static void promise6Charge() {
@@ -776,6 +799,20 @@ public final class PromiseTest {
         A.due("joining slot of 4", x.slotOf(4), 1);
         A.due("joining slot of head 1", x.slotOf(1), NONE);
         A.due("joining delivered", x.lastDelivered(), 5);
+
+        // The first state elects 2 alone of three: both sensors before it join it.
+        ClusterField y = new ClusterField();
+        y.addSensor(50, 50, 1000);
+        y.addSensor(50, 60, 1000);
+        y.addSensor(50, 70, 1000);
+        y.run(1);
+        A.due("joining 0 to 2", y.headOf(0), 2);
+        A.due("joining 1 to 2", y.headOf(1), 2);
+        A.due("joining slot of 0", y.slotOf(0), 0);
+        A.due("joining slot of 1", y.slotOf(1), 1);
+        A.due("joining 0 sent", y.battery(0), 1000 - 9);
+        A.due("joining 1 sent", y.battery(1), 1000 - 6);
+        A.due("joining 2 received both", y.battery(2), 1000 - 2 - 12 - 1 - 69);
     }
 
     private static void reportingToHeads() {
