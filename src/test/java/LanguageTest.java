@@ -20,7 +20,8 @@ public final class LanguageTest {
     };
     private static final String[] RULED_OUT = {
         "\\bpackage\\b", "\\bimport\\b", "\\bthrow\\b", "\\bthrows\\b", "\\btry\\b", "\\bcatch\\b",
-        "\\bsynchronized\\b", "\\bassert\\b", "->", "::", "\\bnull\\b", "\\b(equals|hashCode|toString)\\b", "Exact\\b", "\\bThread\\b"
+        "\\bsynchronized\\b", "\\bassert\\b", "->", "::", "\\bnull\\b",
+        "\\b(equals|hashCode|toString)\\b", "Exact\\b", "\\bThread\\b"
     };
     private static final int LONGEST_METHOD = 60;
     private static final int MOST_FIELDS = 20;
