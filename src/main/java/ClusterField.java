@@ -192,13 +192,15 @@ public final class ClusterField {
         if (!network.has(sensor) || target == sensor) {
             return INVALID_ARGUMENT;
         }
+        Sensor sender = network.sensors[sensor];
         if (target == NONE) {
-            return network.costToBase(network.sensors[sensor]);
+            return network.costOver(sender.distanceTo(network.baseX, network.baseY));
         }
         if (!network.has(target)) {
             return INVALID_ARGUMENT;
         }
-        return network.costBetween(network.sensors[sensor], network.sensors[target]);
+        Sensor receiver = network.sensors[target];
+        return network.costOver(sender.distanceTo(receiver.x, receiver.y));
     }
 
     public int forecastDeath(int sensor, int rounds) {
@@ -208,7 +210,8 @@ public final class ClusterField {
         if (!network.sensors[sensor].alive) {
             return ILLEGAL_STATE;
         }
-        playTrial(rounds);
+        trial.copyFrom(network);
+        trialPlay.perform(rounds);
         return trial.sensors[sensor].deathRound;
     }
 
@@ -216,7 +219,8 @@ public final class ClusterField {
         if (!inRange(rounds, 1, MAX_FORECAST)) {
             return INVALID_ARGUMENT;
         }
-        playTrial(rounds);
+        trial.copyFrom(network);
+        trialPlay.perform(rounds);
         return trial.allReadings - network.allReadings;
     }
 
@@ -251,11 +255,6 @@ public final class ClusterField {
         network.copyFrom(snapshots[slot]);
         history.depth = 0;
         return network.count;
-    }
-
-    private void playTrial(int limit) {
-        trial.copyFrom(network);
-        trialPlay.perform(limit);
     }
 
     private static boolean inRange(int value, int least, int greatest) {
@@ -389,14 +388,6 @@ public final class ClusterField {
             int divisor = settings[DIVISOR];
             return settings[ELECTRONICS] + (divisor > 0 ? distance / divisor : 0);
         }
-
-        int costToBase(Sensor sender) {
-            return costOver(sender.distanceTo(baseX, baseY));
-        }
-
-        int costBetween(Sensor sender, Sensor receiver) {
-            return costOver(sender.distanceTo(receiver.x, receiver.y));
-        }
     }
 
     /** The steps of a round, played on one network. */
@@ -526,7 +517,8 @@ public final class ClusterField {
         }
 
         boolean isLivingHead(int number) {
-            return isHead(number) && net.sensors[number].alive;
+            Sensor sensor = net.sensors[number];
+            return sensor.alive && sensor.head == number;
         }
 
         boolean hasJoined(int number, int head) {
@@ -605,14 +597,14 @@ public final class ClusterField {
         }
 
         void sendToBase(Sensor sender, int readings) {
-            if (pays(sender, net.costToBase(sender))) {
+            if (pays(sender, net.costOver(sender.distanceTo(net.baseX, net.baseY)))) {
                 net.lastReadings += readings;
             }
         }
 
         // True only if the message is with the receiver afterwards; the sender pays for a lost one too.
         boolean sends(Sensor sender, Sensor receiver) {
-            return pays(sender, net.costBetween(sender, receiver))
+            return pays(sender, net.costOver(sender.distanceTo(receiver.x, receiver.y)))
                     && receiver.alive
                     && pays(receiver, net.settings[Network.ELECTRONICS])
                     && pays(receiver, net.settings[Network.AGGREGATION]);
