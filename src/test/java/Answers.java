@@ -1,8 +1,16 @@
+import java.util.ArrayList;
 import java.util.Arrays;
+import java.util.List;
 
 /** Counts the answers that are not the ones that are due, and tells each of them. */
 final class Answers {
+    /** Words of the document that a test holds, and the section that says them. */
+    record Held(String section, String words) {
+    }
+
     private final String title;
+    private final List<Held> held = new ArrayList<>();
+    private String prefix = "";
     private int asked = 0;
     private int wrong = 0;
 
@@ -10,11 +18,43 @@ final class Answers {
         this.title = title;
     }
 
+    /** The answers that follow, up to the next call of holds, hold these words of a promise. */
+    void holds(int promise, String words) {
+        holds(promise, "Promise " + promise, words);
+    }
+
+    /** The same with words of the Description, beside the promise that they matter to most. */
+    void holds(int promise, String section, String words) {
+        held.add(new Held(section, words));
+        prefix = "promise " + promise + ", " + section + ", \"" + words + "\": ";
+    }
+
+    /** The answers that follow hold no words of the document. */
+    void holdsNothing() {
+        prefix = "";
+    }
+
+    /** Runs each of the tests, also when one of those before it throws. */
+    void each(Runnable... tests) {
+        for (Runnable test : tests) {
+            try {
+                test.run();
+            } catch (RuntimeException e) {
+                wrong++;
+                System.out.println(prefix + "threw " + e);
+            }
+        }
+    }
+
+    List<Held> allHeld() {
+        return held;
+    }
+
     void due(String call, long got, long want) {
         asked++;
         if (got != want) {
             wrong++;
-            System.out.println(call + " answered " + got + ", due is " + want);
+            System.out.println(prefix + call + " answered " + got + ", due is " + want);
         }
     }
 
@@ -22,7 +62,7 @@ final class Answers {
         asked++;
         if (!Arrays.equals(got, want)) {
             wrong++;
-            System.out.println(what + " left " + Arrays.toString(got) + ", due is " + Arrays.toString(want));
+            System.out.println(prefix + what + " left " + Arrays.toString(got) + ", due is " + Arrays.toString(want));
         }
     }
 
