@@ -9,17 +9,17 @@ import java.util.stream.Stream;
 public final class EdgesTest {
     // These only say what the sentences beside them are about, or what is left open.
     private static final List<Answers.Held> NO_EDGE = List.of(
-        new Answers.Held("What it is", "A simulator of a clustered wireless sensor network: in every round some sensors "
-                + "become cluster heads by drawn thresholds, the others join the nearest head and send their readings "
-                + "in slots, heads forward aggregated messages to a base station directly or through a relay, and "
-                + "batteries run down"),
+        new Answers.Held("What it is", "A simulator of a clustered wireless sensor network: in every round some "
+                + "sensors become cluster heads by drawn thresholds, the others join the nearest head and send their "
+                + "readings in slots, heads forward aggregated messages to a base station directly or through a relay, "
+                + "and batteries run down"),
         new Answers.Held("What it is", "what later calls answer is free"),
         new Answers.Held("Rounds", "A round has these steps"),
         new Answers.Held("Errors", "Examples: Each of them begins with a new object; the results are given behind the "
                 + "calls"),
         new Answers.Held("Errors", "The constants"),
-        new Answers.Held("Errors", "The constructor and the methods follow, a promise each: the signature, then what it "
-                + "does"),
+        new Answers.Held("Errors", "The constructor and the methods follow, a promise each: the signature, then "
+                + "what it does"),
         new Answers.Held("Promise 4", "Changes a setting"),
         new Answers.Held("Promise 5", "Sets the state of the generator"),
         new Answers.Held("Promise 9", "Counts the sensors"),

@@ -45,6 +45,7 @@ final class PromiseEdges {
             this::roundOfTheGenerator,
             this::negativeGenerator,
             () -> sensorNumber(6, (x, sensor) -> x.charge(sensor, 1)),
+            () -> noSuchSensor(6, (x, sensor) -> x.charge(sensor, 1)),
             this::chargedUnits,
             this::newBattery,
             this::wrongCharge,
@@ -61,40 +62,58 @@ final class PromiseEdges {
             this::countOfTheLiving,
             this::countWithoutTheDead,
             () -> sensorNumber(11, ClusterField::isAlive),
+            () -> noSuchSensor(11, ClusterField::isAlive),
             this::aliveOrNot,
             () -> sensorNumber(12, ClusterField::battery),
+            () -> noSuchSensor(12, ClusterField::battery),
             this::batteryUnits,
             () -> sensorNumber(13, ClusterField::isEligible),
+            () -> noSuchSensor(13, ClusterField::isEligible),
             this::eligibleOrNot,
             this::eligibleToDraw,
             () -> sensorNumber(14, ClusterField::headRounds),
+            () -> noSuchSensor(14, ClusterField::headRounds),
             this::timesHead,
             this::timesHeadSoFar,
             () -> sensorNumber(15, ClusterField::deathRound),
+            () -> noSuchSensor(15, ClusterField::deathRound),
             this::roundOfDeath,
+            this::noRoundOfDeath,
             this::lateDeath,
             () -> sensorNumber(16, ClusterField::headOf),
+            () -> noSuchSensor(16, ClusterField::headOf),
             this::headOfTheCluster,
+            this::noCluster,
+            this::addedSinceTheLastRound,
             this::headInTheLastRound,
             () -> sensorNumber(17, ClusterField::slotOf),
+            () -> noSuchSensor(17, ClusterField::slotOf),
             this::slotInTheCluster,
+            this::noSlot,
             this::slotInTheLastRound,
             this::countOfHeads,
+            this::noRoundNoHeads,
             this::headsOfTheLastRound,
             this::lastReadings,
+            this::noRoundNoReadings,
             this::readingsOfTheLastRound,
             this::allReadings,
             this::readingsOfAllRounds,
             this::paidEnergy,
             this::energyOfAllRounds,
             () -> sensorNumber(22, (x, sensor) -> x.sendCost(sensor, NONE)),
+            () -> noSuchSensor(22, (x, sensor) -> x.sendCost(sensor, NONE)),
             this::costToSend,
             this::targetOfAMessage,
             this::wrongTarget,
             () -> sensorNumber(23, (x, sensor) -> x.forecastDeath(sensor, 1)),
+            () -> noSuchSensor(23, (x, sensor) -> x.forecastDeath(sensor, 1)),
             this::forecastSensor,
             this::forecastDeathRounds,
-            this::forecastDeathAnswers,
+            this::forecastRoundOfDeath,
+            this::wrongForecastOfDeath,
+            this::forecastOfTheDead,
+            this::aliveAfterTheForecast,
             this::forecastDeliveredRounds,
             this::forecastDeliveredAnswers,
             this::wrongForecastRounds,
@@ -124,25 +143,31 @@ final class PromiseEdges {
         a.due("the greatest int", call.applyAsInt(GREATEST), greatest == GREATEST ? 0 : INVALID);
     }
 
-    // No sensor, one, twelve, one taken back, fewer after a restore: only numbers below the count are sensors.
+    // One sensor, and twelve: the least and the greatest number.
     private void sensorNumber(int promise, SensorCall call) {
         a.holds(promise, "`sensor`: number of a sensor");
-        ClusterField x = new ClusterField();
-        a.due("no sensors: 0", call.of(x, 0), INVALID);
-        x.save(0);
-        x.moveBase(50, 50);
-        x.addSensor(50, 50, 100);
+        ClusterField x = Networks.atBase(100);
         a.due("one: 0", call.of(x, 0) != INVALID ? 1 : 0, 1);
         a.due("one: 1", call.of(x, 1), INVALID);
-        for (int n = 1; n < 12; n++) {
+        ClusterField y = Networks.full(100);
+        a.due("twelve: 0", call.of(y, 0) != INVALID ? 1 : 0, 1);
+        a.due("twelve: 11", call.of(y, 11) != INVALID ? 1 : 0, 1);
+        a.due("twelve: 12", call.of(y, 12), INVALID);
+    }
+
+    // No sensor, twelve, one taken back, none after a restore.
+    private void noSuchSensor(int promise, SensorCall call) {
+        a.holds(promise, "INVALID_ARGUMENT if there is no such sensor");
+        a.due("no sensors: 0", call.of(new ClusterField(), 0), INVALID);
+        ClusterField x = new ClusterField();
+        x.save(0);
+        for (int n = 0; n < 12; n++) {
             x.addSensor(50, 50, 100);
         }
         int[] wrong = {LEAST, NONE, -1, 12, GREATEST};
         for (int number : wrong) {
             a.due("twelve: " + number, call.of(x, number), INVALID);
         }
-        a.due("twelve: 0", call.of(x, 0) != INVALID ? 1 : 0, 1);
-        a.due("twelve: 11", call.of(x, 11) != INVALID ? 1 : 0, 1);
         for (int n = 0; n < 6 && x.sensorCount() == 12; n++) {
             x.undo();
         }
@@ -579,21 +604,20 @@ final class PromiseEdges {
     }
 
     private void aliveOrNot() {
-        a.holds(11, "Returns 1 if it is, otherwise 0; INVALID_ARGUMENT if there is no such sensor");
+        a.holds(11, "Returns 1 if it is, otherwise 0");
         ClusterField x = Networks.runOne(Networks.atBase(5, 4), "00");
         a.due("paid its last unit", x.isAlive(0), 1);
         a.due("dead", x.isAlive(1), 0);
     }
 
     private void batteryUnits() {
-        a.holds(12, "Returns the energy units; INVALID_ARGUMENT if there is no such sensor");
+        a.holds(12, "Returns the energy units");
         a.due("none", Networks.atBase(0).battery(0), 0);
         a.due("the most of a new one", Networks.atBase(100000).battery(0), 100000);
     }
 
     private void eligibleOrNot() {
-        a.holds(13, "Returns 1 if it is alive, and it is eligible or the next round has phase 0; otherwise 0; "
-                + "INVALID_ARGUMENT if there is no such sensor");
+        a.holds(13, "Returns 1 if it is alive, and it is eligible or the next round has phase 0; otherwise 0");
         ClusterField x = Networks.atBase(1000, 10000, 2);
         a.due("before round 0", x.isEligible(0), 1);
         Networks.runOne(x, "101");
@@ -621,7 +645,7 @@ final class PromiseEdges {
     }
 
     private void timesHead() {
-        a.holds(14, "Returns the number of rounds; INVALID_ARGUMENT if there is no such sensor");
+        a.holds(14, "Returns the number of rounds");
         ClusterField x = Networks.runOne(Networks.atBase(2, 1, 1000), "111");
         a.due("head that died later in the round", x.headRounds(0), 1);
         a.due("died announcing itself", x.headRounds(1), 0);
@@ -643,15 +667,25 @@ final class PromiseEdges {
     }
 
     private void roundOfDeath() {
-        a.holds(15, "Returns the number of the round; INVALID_ARGUMENT if there is no such sensor; NONE if it is alive");
+        a.holds(15, "Returns the number of the round");
         ClusterField x = Networks.runOne(Networks.atBase(4, 5, 10000), "000");
         a.due("the first round", x.deathRound(0), 0);
-        a.due("alive with nothing", x.deathRound(1), NONE);
         x.run(1);
         a.due("the second round", x.deathRound(1), 1);
         x.run(9);
         a.due("the first round, later", x.deathRound(0), 0);
+        a.due("the second round, later", x.deathRound(1), 1);
+    }
+
+    private void noRoundOfDeath() {
+        a.holds(15, "NONE if it is alive");
+        ClusterField x = Networks.atBase(0, 5, 10000);
+        a.due("before any round, with nothing", x.deathRound(0), NONE);
+        Networks.runOne(x, "000");
+        a.due("alive with nothing", x.deathRound(1), NONE);
+        x.run(50);
         a.due("alive", x.deathRound(2), NONE);
+        a.due("dead", x.deathRound(0), 0);
     }
 
     private void lateDeath() {
@@ -666,22 +700,40 @@ final class PromiseEdges {
     }
 
     private void headOfTheCluster() {
-        a.holds(16, "Returns the number of the head, which can be the sensor itself; INVALID_ARGUMENT if there is no "
-                + "such sensor; NONE if it belonged to no cluster, or if no round has been performed since it was added");
-        ClusterField x = Networks.elect(Networks.atBase(1000, 1000, 1), "011");
-        a.due("no round yet", x.headOf(0), NONE);
-        x.run(1);
+        a.holds(16, "Returns the number of the head, which can be the sensor itself");
+        ClusterField x = Networks.runOne(Networks.atBase(1000, 1000, 1), "010");
         a.due("a member", x.headOf(0), 1);
         a.due("the head itself", x.headOf(1), 1);
+        a.due("a member that died sending", x.headOf(2), 1);
+        ClusterField y = Networks.runOne(Networks.atBase(1000), "1");
+        a.due("the least number", y.headOf(0), 0);
+        ClusterField z = Networks.runOne(Networks.full(1000), "000000000001");
+        a.due("the greatest number, itself", z.headOf(11), 11);
+        a.due("the greatest number", z.headOf(0), 11);
+    }
+
+    private void noCluster() {
+        a.holds(16, "NONE if it belonged to no cluster");
+        ClusterField x = Networks.runOne(Networks.atBase(1000, 1000, 1), "011");
         a.due("died announcing itself", x.headOf(2), NONE);
-        x.addSensor(50, 50, 1);
-        a.due("added since", x.headOf(3), NONE);
-        x.forecastDelivered(9);
-        a.due("forecast since", x.headOf(3), NONE);
-        Networks.elect(x, 3, "00").run(1);
+        Networks.elect(x, 3, "0").run(1);
         a.due("a round without heads", x.headOf(0), NONE);
         x.undo();
         a.due("after undo", x.headOf(0), 1);
+    }
+
+    private void addedSinceTheLastRound() {
+        a.holds(16, "or if no round has been performed since it was added");
+        ClusterField x = Networks.elect(Networks.atBase(1000, 1000), "10");
+        a.due("no round yet", x.headOf(1), NONE);
+        x.forecastDelivered(9);
+        a.due("a forecast is no round", x.headOf(1), NONE);
+        x.run(1);
+        x.addSensor(50, 50, 1000);
+        a.due("added since", x.headOf(2), NONE);
+        a.due("the others belonged to one", x.headOf(1), 0);
+        Networks.elect(x, 3, "10").run(1);
+        a.due("a round later", x.headOf(2), 1);
     }
 
     private void headInTheLastRound() {
@@ -705,16 +757,25 @@ final class PromiseEdges {
     }
 
     private void slotInTheCluster() {
-        a.holds(17, "Returns the slot; INVALID_ARGUMENT if there is no such sensor; NONE if the sensor had no slot");
-        ClusterField x = Networks.elect(Networks.atBase(1000, 1000, 1, 4), "0110");
+        a.holds(17, "Returns the slot");
+        ClusterField x = Networks.runOne(Networks.atBase(1000, 1000, 1000, 4), "0100");
+        a.due("the first slot", x.slotOf(0), 0);
+        a.due("the second", x.slotOf(2), 1);
+        a.due("of one that died sending", x.slotOf(3), 2);
+        ClusterField y = Networks.runOne(Networks.full(1000), "100000000000");
+        a.due("the last slot of eleven", y.slotOf(11), 10);
+    }
+
+    private void noSlot() {
+        a.holds(17, "NONE if the sensor had no slot");
+        ClusterField x = Networks.elect(Networks.atBase(1000, 1000, 1), "011");
         a.due("no round yet", x.slotOf(0), NONE);
         x.run(1);
-        a.due("the first slot", x.slotOf(0), 0);
         a.due("the head", x.slotOf(1), NONE);
         a.due("died announcing itself", x.slotOf(2), NONE);
-        a.due("died sending", x.slotOf(3), 1);
         x.addSensor(50, 50, 1);
-        a.due("added since", x.slotOf(4), NONE);
+        a.due("added since", x.slotOf(3), NONE);
+        a.due("the member has one", x.slotOf(0), 0);
         Networks.elect(x, 3, "00").run(1);
         a.due("a round without heads", x.slotOf(0), NONE);
     }
@@ -734,17 +795,23 @@ final class PromiseEdges {
     }
 
     private void countOfHeads() {
-        a.holds(18, "Returns the number of heads; 0 if no round has been performed");
-        ClusterField x = Networks.elect(Networks.atBase(1000, 2, 1), "111");
-        a.due("no round", x.headCount(), 0);
-        x.run(1);
+        a.holds(18, "Returns the number of heads");
+        ClusterField x = Networks.runOne(Networks.atBase(1000, 2, 1), "111");
         a.due("the dead head counts, who died announcing does not", x.headCount(), 2);
         x.run(1);
         a.due("a round without heads", x.headCount(), 0);
         x.undo();
         a.due("after undo", x.headCount(), 2);
+    }
+
+    private void noRoundNoHeads() {
+        a.holds(18, "0 if no round has been performed");
+        a.due("a new object", new ClusterField().headCount(), 0);
+        ClusterField x = Networks.elect(Networks.atBase(1000), "1");
+        a.due("sensors, but no round", x.headCount(), 0);
+        x.run(1);
         x.undo();
-        a.due("no round again", x.headCount(), 0);
+        a.due("the only round was undone", x.headCount(), 0);
     }
 
     private void headsOfTheLastRound() {
@@ -762,19 +829,26 @@ final class PromiseEdges {
     }
 
     private void lastReadings() {
-        a.holds(19, "Returns the number of readings; 0 if no round has been performed");
-        ClusterField x = Networks.atBase(5, 10);
-        a.due("no round", x.lastDelivered(), 0);
-        Networks.runOne(x, "00");
+        a.holds(19, "Returns the number of readings");
+        ClusterField x = Networks.runOne(Networks.atBase(5, 10), "00");
         a.due("the first", x.lastDelivered(), 2);
         Networks.elect(x, 3, "00").run(1);
         a.due("the second", x.lastDelivered(), 1);
         x.run(1);
         a.due("all die", x.lastDelivered(), 0);
-        a.due("no further round", x.run(1), ILLEGAL);
-        a.due("the last one is as it was", x.lastDelivered(), 0);
         x.undo();
         a.due("after undo", x.lastDelivered(), 1);
+    }
+
+    private void noRoundNoReadings() {
+        a.holds(19, "0 if no round has been performed");
+        a.due("a new object", new ClusterField().lastDelivered(), 0);
+        ClusterField x = Networks.atBase(1000);
+        a.due("sensors, but no round", x.lastDelivered(), 0);
+        x.run(1);
+        a.due("a reading", x.lastDelivered(), 1);
+        x.undo();
+        a.due("the only round was undone", x.lastDelivered(), 0);
     }
 
     private void readingsOfTheLastRound() {
@@ -906,22 +980,46 @@ final class PromiseEdges {
         range(1, 300, v -> Networks.atBase(0).forecastDeath(0, v));
     }
 
-    private void forecastDeathAnswers() {
-        a.holds(23, "Returns the number of the round; INVALID_ARGUMENT if there is no such sensor, or if rounds is out "
-                + "of range; ILLEGAL_STATE if the sensor is dead; NONE if the sensor is alive at the end of the forecast");
-        ClusterField x = Networks.atBase(4, 5, 100000);
-        x.setGenerator(Draws.electing(4, "000"));
-        a.due("the first round of the first", x.forecastDeath(0, 1), 0);
-        a.due("the second round is not in the forecast", x.forecastDeath(1, 1), NONE);
-        a.due("the second round is", x.forecastDeath(1, 2), 1);
-        a.due("alive at the end", x.forecastDeath(2, 300), NONE);
-        a.due("no such sensor", x.forecastDeath(3, 300), INVALID);
-        a.due("no round", x.forecastDeath(0, 0), INVALID);
-        a.due("301 rounds", x.forecastDeath(2, 301), INVALID);
+    private void forecastRoundOfDeath() {
+        a.holds(23, "Returns the number of the round");
+        ClusterField x = Networks.elect(Networks.atBase(4, 5, 100000), "000");
+        a.due("the first round", x.forecastDeath(0, 1), 0);
+        a.due("the second round", x.forecastDeath(1, 2), 1);
         x.run(1);
-        a.due("dead", x.forecastDeath(0, 1), ILLEGAL);
-        a.due("dead, 301 rounds", x.forecastDeath(0, 301), INVALID);
         a.due("the number counts from round 0", x.forecastDeath(1, 1), 1);
+        ClusterField y = cheap(299);
+        a.due("the last round of the greatest forecast", y.forecastDeath(0, 300), 299);
+    }
+
+    private void wrongForecastOfDeath() {
+        a.holds(23, "INVALID_ARGUMENT if there is no such sensor, or if rounds is out of range");
+        ClusterField x = Networks.runOne(Networks.atBase(4, 1000), "00");
+        int[] wrong = {LEAST, -1, 0, 301, GREATEST};
+        for (int rounds : wrong) {
+            a.due("alive, " + rounds, x.forecastDeath(1, rounds), INVALID);
+            a.due("dead, " + rounds, x.forecastDeath(0, rounds), INVALID);
+            a.due("no such sensor, " + rounds, x.forecastDeath(2, rounds), INVALID);
+        }
+        a.due("no such sensor", x.forecastDeath(2, 300), INVALID);
+    }
+
+    private void forecastOfTheDead() {
+        a.holds(23, "ILLEGAL_STATE if the sensor is dead");
+        ClusterField x = Networks.runOne(Networks.atBase(4, 1000), "00");
+        a.due("dead, the least rounds", x.forecastDeath(0, 1), ILLEGAL);
+        a.due("dead, the most rounds", x.forecastDeath(0, 300), ILLEGAL);
+        a.due("alive", x.forecastDeath(1, 1), NONE);
+        x.undo();
+        a.due("alive again by undo", x.forecastDeath(0, 1), 0);
+    }
+
+    private void aliveAfterTheForecast() {
+        a.holds(23, "NONE if the sensor is alive at the end of the forecast");
+        a.due("299 rounds paid, of 299", cheap(299).forecastDeath(0, 299), NONE);
+        a.due("299 rounds paid, of 300", cheap(299).forecastDeath(0, 300), 299);
+        a.due("300 rounds paid, of 300", cheap(300).forecastDeath(0, 300), NONE);
+        a.due("1 round paid, of 1", cheap(1).forecastDeath(0, 1), NONE);
+        a.due("none paid, of 1", cheap(0).forecastDeath(0, 1), 0);
     }
 
     private void forecastDeliveredRounds() {

@@ -3,7 +3,7 @@ import java.util.function.Supplier;
 import java.util.function.ToIntFunction;
 import java.util.stream.IntStream;
 
-/** Edges of 'Errors': each refused call with its code, where two conditions apply as well, and that it changes nothing. */
+/** Edges of 'Errors': each refused call with its code, also where two apply, and that it changes nothing. */
 final class RefusalEdges {
     private static final int INVALID = -1;
     private static final int ILLEGAL = -2;
@@ -12,6 +12,8 @@ final class RefusalEdges {
     private static final int LEAST = Integer.MIN_VALUE;
     private static final int GREATEST = Integer.MAX_VALUE;
     private static final int PROBES = 10;
+    private static final String IF_SEVERAL =
+            "If several error conditions apply, the method returns the one that its description lists first";
 
     private final Answers a;
 
@@ -216,8 +218,7 @@ final class RefusalEdges {
     }
 
     private void wrongArgumentOfAFullNetwork() {
-        a.holds(2, "Errors", "If several error conditions apply, the method returns the one that its description lists "
-                + "first");
+        a.holds(2, "Errors", IF_SEVERAL);
         wrong("x too small", RefusalEdges::full, x -> x.addSensor(-1, 0, 0));
         wrong("x too large", RefusalEdges::full, x -> x.addSensor(100, 0, 0));
         wrong("y too small", RefusalEdges::full, x -> x.addSensor(0, -1, 0));
@@ -227,8 +228,7 @@ final class RefusalEdges {
     }
 
     private void wrongUnitsForTheDeadOrTheFull() {
-        a.holds(6, "Errors", "If several error conditions apply, the method returns the one that its description lists "
-                + "first");
+        a.holds(6, "Errors", IF_SEVERAL);
         wrong("dead, units 0", RefusalEdges::busy, x -> x.charge(3, 0));
         wrong("dead, units 100001", RefusalEdges::busy, x -> x.charge(3, 100001));
         wrong("greatest battery, units 0", RefusalEdges::busy, x -> x.charge(0, 0));
@@ -238,8 +238,7 @@ final class RefusalEdges {
     }
 
     private void wrongRoundsWithNobodyAlive() {
-        a.holds(7, "Errors", "If several error conditions apply, the method returns the one that its description lists "
-                + "first");
+        a.holds(7, "Errors", IF_SEVERAL);
         wrong("all dead, 0 rounds", RefusalEdges::dead, x -> x.run(0));
         wrong("all dead, 51 rounds", RefusalEdges::dead, x -> x.run(51));
         wrong("no sensors, 0 rounds", ClusterField::new, x -> x.run(0));
@@ -249,16 +248,14 @@ final class RefusalEdges {
     }
 
     private void wrongForecastOfTheDead() {
-        a.holds(23, "Errors", "If several error conditions apply, the method returns the one that its description lists "
-                + "first");
+        a.holds(23, "Errors", IF_SEVERAL);
         wrong("dead, 0 rounds", RefusalEdges::busy, x -> x.forecastDeath(3, 0));
         wrong("dead, 301 rounds", RefusalEdges::busy, x -> x.forecastDeath(3, 301));
         wrong("no such sensor, 0 rounds", RefusalEdges::busy, x -> x.forecastDeath(4, 0));
     }
 
     private void wrongAndEmptySlot() {
-        a.holds(28, "Errors", "If several error conditions apply, the method returns the one that its description lists "
-                + "first");
+        a.holds(28, "Errors", IF_SEVERAL);
         wrong("both slots empty, -1", ClusterField::new, x -> x.restore(-1));
         wrong("both slots empty, 2", ClusterField::new, x -> x.restore(2));
         wrong("one slot empty, 2", RefusalEdges::busy, x -> x.restore(2));

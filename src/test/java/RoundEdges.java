@@ -551,7 +551,8 @@ final class RoundEdges {
     }
 
     private void relayIsTheFirstOfSeveral() {
-        a.holds(7, "Rounds", "has the smallest distance to the base station, of several the one with the smallest number");
+        a.holds(7, "Rounds", "has the smallest distance to the base station, of several the one with the smallest "
+                + "number");
         ClusterField x = Networks.runOne(relayAtBase(1000, 1000, 1000), "011");
         a.due("1 is the relay", x.battery(1), 1000 - 2 - 6 - 1 - 6 - 5);
         a.due("2 sends to it", x.battery(2), 1000 - 2 - 1 - 5);
@@ -574,8 +575,8 @@ final class RoundEdges {
     }
 
     private void senderToTheRelay() {
-        a.holds(7, "Rounds", "First, in ascending order, each other head that is still alive pays for sending a message "
-                + "to the relay; if it pays, the relay, if it is still alive, pays for receiving");
+        a.holds(7, "Rounds", "First, in ascending order, each other head that is still alive pays for sending a "
+                + "message to the relay; if it pays, the relay, if it is still alive, pays for receiving");
         ClusterField x = Networks.runOne(relayAtBase(1000, 2 + 1 + 5), "11");
         a.due("exactly enough: left", x.battery(1), 0);
         a.due("exactly enough: alive", x.isAlive(1), 1);
@@ -588,7 +589,8 @@ final class RoundEdges {
     }
 
     private void relayCannotReceive() {
-        a.holds(7, "Rounds", "the relay, if it is still alive, pays for receiving and then, if it paid, for aggregating");
+        a.holds(7, "Rounds", "the relay, if it is still alive, pays for receiving and then, if it paid, for "
+                + "aggregating");
         ClusterField x = Networks.runOne(relayAtBase(2 + 1 + 4, 1000), "11");
         a.due("one too few: kept", x.battery(0), 4);
         a.due("one too few: dead", x.isAlive(0), 0);
