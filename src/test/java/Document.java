@@ -32,7 +32,7 @@ final class Document {
         return document;
     }
 
-    // Signatures, rulers and code say nothing that these tests hold, and PromiseTest runs the numbered examples.
+    // Signatures, rulers and code say nothing that these tests hold, and ExamplesTest plays the numbered examples.
     private static boolean isProse(String line) {
         boolean example = line.matches("\\d\\. .*\\) = -?\\d+.*");
         return !example && !line.isBlank() && !line.matches("(```|----|`[A-Za-z]).*|}| {4}public .*|public .*");

@@ -5,10 +5,13 @@ import java.lang.reflect.Method;
 import java.lang.reflect.Modifier;
 import java.nio.file.Files;
 import java.nio.file.Path;
+import java.util.Arrays;
+import java.util.Comparator;
+import java.util.Random;
 import java.util.Set;
 import java.util.TreeSet;
 
-/** The face of the class, and what ../shared/LANGUAGE.md rules out and a look at words can find. */
+/** The face of the class, what a look at words can find of ../shared/LANGUAGE.md, and that no call throws. */
 public final class LanguageTest {
     private static final Path SOURCE = Path.of("src/main/java/ClusterField.java");
     private static final String[] FACE = {
@@ -26,6 +29,10 @@ public final class LanguageTest {
     private static final int LONGEST_METHOD = 60;
     private static final int MOST_FIELDS = 20;
     private static final int MOST_CLASSES = 12;
+    private static final int CALLS_WITHOUT_END = 20000;
+    private static final int[] EXTREMES = {
+        Integer.MIN_VALUE, Integer.MIN_VALUE + 1, -9, -1, 0, 1, 12, Integer.MAX_VALUE - 1, Integer.MAX_VALUE
+    };
 
     private static final Answers A = new Answers("LanguageTest");
 
@@ -34,6 +41,7 @@ public final class LanguageTest {
         ownClasses();
         words();
         methodLengths();
+        noCallThrows();
         A.finish();
     }
 
@@ -118,6 +126,36 @@ public final class LanguageTest {
                 A.due("a method of " + length + " lines is short", length <= LONGEST_METHOD ? 1 : 0, 1);
                 length = 0;
             }
+        }
+    }
+
+    // Answers after call 512 are free, but no call may throw, for any arguments in any state.
+    private static void noCallThrows() {
+        Random dice = new Random(7);
+        ClusterField x = new ClusterField();
+        Method[] methods = ClusterField.class.getDeclaredMethods();
+        // Java gives them in no order of its own, and each run is to be the same.
+        Arrays.sort(methods, Comparator.comparing(Method::getName));
+        for (int n = 0; n < CALLS_WITHOUT_END; n++) {
+            Method m = methods[dice.nextInt(methods.length)];
+            if (Modifier.isPublic(m.getModifiers())) {
+                A.due(m.getName() + " throws, call " + n, throwsIn(x, m, dice) ? 1 : 0, 0);
+            }
+        }
+    }
+
+    private static boolean throwsIn(ClusterField x, Method m, Random dice) {
+        Object[] arguments = new Object[m.getParameterCount()];
+        for (int i = 0; i < arguments.length; i++) {
+            boolean extreme = dice.nextInt(4) == 0;
+            arguments[i] = extreme ? EXTREMES[dice.nextInt(EXTREMES.length)] : dice.nextInt(14);
+        }
+        try {
+            m.invoke(x, arguments);
+            return false;
+        } catch (ReflectiveOperationException e) {
+            System.out.println(m.getName() + Arrays.toString(arguments) + ": " + e.getCause());
+            return true;
         }
     }
 }
